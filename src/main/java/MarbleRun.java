@@ -49,13 +49,8 @@ public final class MarbleRun {
         if (noRow(row)) {
             return BAD;
         }
-        if (rows.isMissing(row)) {
-            return found(FOUND_NULL);
-        }
-        if (!rows.has(row, i, 1)) {
-            return found(FOUND_PLACE);
-        }
-        return foundNone(rows.put(row, i, v));
+        int finding = findingAt(row, i, 1);
+        return finding == 0 ? foundNone(rows.put(row, i, v)) : found(finding);
     }
 
     public int copy(int a, int i, int b, int j, int n) {
@@ -312,11 +307,9 @@ public final class MarbleRun {
         if (noPiece(piece) || outside(which, 0, 1) || noRow(row) || outside(n, 1, 12)) {
             return BAD;
         }
-        if (rows.isMissing(row)) {
-            return found(FOUND_NULL);
-        }
-        if (!rows.has(row, i, n)) {
-            return found(FOUND_PLACE);
+        int finding = findingAt(row, i, n);
+        if (finding != 0) {
+            return found(finding);
         }
         seer.watch(rows.itemsOf(row), i, n);
         return foundNone(which == 0 ? seer.kindsThatFit(now, piece) : seer.pointsThatFit(now, piece));
@@ -326,11 +319,9 @@ public final class MarbleRun {
         if (noMarble(marble) || outside(which, 0, 1) || noRow(row) || outside(n, 1, 12)) {
             return BAD;
         }
-        if (rows.isMissing(row)) {
-            return found(FOUND_NULL);
-        }
-        if (!rows.has(row, i, n)) {
-            return found(FOUND_PLACE);
+        int finding = findingAt(row, i, n);
+        if (finding != 0) {
+            return found(finding);
         }
         seer.watch(rows.itemsOf(row), i, n);
         return foundNone(which == 0 ? seer.weightsThatFit(now, marble) : seer.barsThatFit(now));
@@ -449,6 +440,13 @@ public final class MarbleRun {
 
     private boolean noMarble(int marble) {
         return outside(marble, 0, now.marbles - 1);
+    }
+
+    private int findingAt(int row, int i, int n) {
+        if (rows.isMissing(row)) {
+            return FOUND_NULL;
+        }
+        return rows.has(row, i, n) ? 0 : FOUND_PLACE;
     }
 
     private int found(int finding) {
@@ -896,34 +894,26 @@ public final class MarbleRun {
             return false;
         }
 
-        int bitsAt(int where) {
+        private int bitsBetween(int least, int most) {
             int bits = 0;
             for (int m = 0; m < marbles; m++) {
-                if (place[m] == where) {
+                if (place[m] >= least && place[m] <= most) {
                     bits |= 1 << m;
                 }
             }
             return bits;
+        }
+
+        int bitsAt(int where) {
+            return bitsBetween(where, where);
         }
 
         int bitsRunning() {
-            int bits = 0;
-            for (int m = 0; m < marbles; m++) {
-                if (place[m] < LEFT_TRAY) {
-                    bits |= 1 << m;
-                }
-            }
-            return bits;
+            return bitsBetween(0, MOST_PIECES - 1);
         }
 
         int bitsHeld() {
-            int bits = 0;
-            for (int m = 0; m < marbles; m++) {
-                if (place[m] >= HELD) {
-                    bits |= 1 << m;
-                }
-            }
-            return bits;
+            return bitsBetween(HELD, HELD + MOST_PIECES - 1);
         }
 
         int bitsOutOfTrays() {
@@ -1239,14 +1229,16 @@ public final class MarbleRun {
             return true;
         }
 
+        private int bitIfFit(int v) {
+            return fits() ? 1 << v : 0;
+        }
+
         int kindsThatFit(Track now, int piece) {
             int bits = 0;
             for (int kind = GATE; kind <= SCALE; kind++) {
                 look.becomeLike(now);
                 look.sort[piece] = kind;
-                if (fits()) {
-                    bits |= 1 << kind;
-                }
+                bits |= bitIfFit(kind);
             }
             return bits;
         }
@@ -1256,9 +1248,7 @@ public final class MarbleRun {
             for (int point = 0; point <= 1; point++) {
                 look.becomeLike(now);
                 look.point[piece] = point;
-                if (fits()) {
-                    bits |= 1 << point;
-                }
+                bits |= bitIfFit(point);
             }
             return bits;
         }
@@ -1268,9 +1258,7 @@ public final class MarbleRun {
             for (int weight = 1; weight <= 9; weight++) {
                 look.becomeLike(now);
                 look.weight[marble] = weight;
-                if (fits()) {
-                    bits |= 1 << weight;
-                }
+                bits |= bitIfFit(weight);
             }
             return bits;
         }
@@ -1280,9 +1268,7 @@ public final class MarbleRun {
             for (int bar = 1; bar <= 9; bar++) {
                 look.becomeLike(now);
                 look.bar = bar;
-                if (fits()) {
-                    bits |= 1 << bar;
-                }
+                bits |= bitIfFit(bar);
             }
             return bits;
         }

@@ -19,6 +19,7 @@ public final class DoneTest {
         undoes();
         forgets();
         tells();
+        countsUpTo();
         due.end();
     }
 
@@ -107,6 +108,10 @@ public final class DoneTest {
         MarbleRun x = Due.told("b5;m3,0;g0,5,9;s0,8,9;");
         x.ticks(1);
         due.is("a piece that there is not", x.marble(0, 2), 8);
+        due.is("none runs", x.stand(2), 0);
+        x = Due.told("b5;m3,0;g0,2,9;s0,8,9;");
+        x.ticks(1);
+        due.is("the first piece that there is not", x.marble(0, 2), 8);
         x = Due.told("b5;m3,0;m9,1;g0,1,2;s0,8,9;w1,8,9;");
         x.ticks(1);
         due.is("on piece 1", x.marble(0, 2), 1);
@@ -269,5 +274,19 @@ public final class DoneTest {
         x.ticks(2);
         due.is("RIGHT TRAY", x.stand(5), 2);
         due.is("LEFT TRAY", x.stand(4), 0);
+    }
+
+    /** No 512 calls can bring so many over a piece, but the bounds are told. */
+    private static void countsUpTo() {
+        MarbleRun x = Due.told("b5;m9,0;m9,0;m9,0;m9,0;m9,0;m9,0;g0,8,9;");
+        x.ticks(1);
+        for (int t = 1; t < 200; t++) {
+            for (int m = 0; m < 6; m++) {
+                x.again(m, 9);
+            }
+            x.ticks(1);
+            due.is("WENT by " + t, x.piece(0, 4), Math.min(999, 6 * (t + 1)));
+            due.is("BURDEN by " + t, x.piece(0, 5), Math.min(9999, 54 * (t + 1)));
+        }
     }
 }

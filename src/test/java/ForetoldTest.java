@@ -60,6 +60,7 @@ public final class ForetoldTest {
 
     private static void trays() {
         MarbleRun x = Due.told(HOLDER);
+        due.is("right by 0", x.trays(0, 1), 0);
         due.is("right by 1", x.trays(1, 1), 0);
         due.is("right by 2", x.trays(2, 1), 2);
         due.is("left by 2", x.trays(2, 0), 0);
@@ -161,6 +162,10 @@ public final class ForetoldTest {
         due.is("n 41", x.leads(0, 41, 0), Due.BAD);
         due.is("what above", x.leads(0, 1, 2), Due.BAD);
         due.is("what below", x.leads(0, 1, -1), Due.BAD);
+        x.tips(40, 0);
+        x.order(40, 0);
+        due.is("whatever was asked before", x.leads(0, 2, 0), 2);
+        due.is("and how many", x.leads(0, 2, 1), 1);
         due.is("no such piece", x.leads(3, 1, 0), Due.BAD);
         due.is("piece below", x.leads(-1, 1, 0), Due.BAD);
     }
@@ -207,6 +212,10 @@ public final class ForetoldTest {
         due.is("of 999", x.share(0, 999), 500);
         due.is("of 999, next", x.share(2, 999), 250);
         due.is("of 999, last", x.share(3, 999), 249);
+        MarbleRun one = Due.told("b5;m1,0;g0,8,9;g0,8,9;");
+        one.ticks(1);
+        due.is("one went over one", one.share(0, 999), 999);
+        due.is("none over the other", one.share(1, 999), 0);
         due.is("n below", x.share(0, -1), Due.BAD);
         due.is("n above", x.share(0, 1000), Due.BAD);
         due.is("no such piece", x.share(4, 1), Due.BAD);
@@ -270,6 +279,8 @@ public final class ForetoldTest {
         due.is("place below", x.who(0, 0, 4, -1, 1), Due.PLACE);
         due.is("place most", x.who(0, 0, 4, Integer.MAX_VALUE, 1), Due.PLACE);
         due.is("NULL ahead of PLACE", x.who(0, 0, 7, -1, 1), Due.NULL);
+        due.is("fits again", x.who(0, 1, 0, 1, 4), 1);
+        due.is("status then", x.status(), 0);
     }
 
     private static void whoOfOneThatHolds() {
@@ -304,6 +315,8 @@ public final class ForetoldTest {
         due.is("beyond", x.weights(0, 0, 0, 1, 2), Due.PLACE);
         due.is("status PLACE", x.status(), 2);
         due.is("place below", x.weights(0, 0, 0, -1, 1), Due.PLACE);
+        due.is("fits again", x.weights(0, 1, 0, 1, 1), 0b1110);
+        due.is("status then", x.status(), 0);
         x = Due.told("b5;m3,0;m2,1;w0,8,9;");
         Due.fill(x, 0, 1, 11);
         due.is("no even sum", x.weights(0, 0, 0, 0, 2), 0);
