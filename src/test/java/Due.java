@@ -4,6 +4,7 @@ final class Due {
     static final int NULL = -1000011, PLACE = -1000012, KIND = -1000013, SIZE = -1000014, STORE = -1000015;
 
     private final String test;
+    private String sentence = "";
     private int asked = 0;
     private int wrong = 0;
 
@@ -11,11 +12,16 @@ final class Due {
         this.test = test;
     }
 
+    /** The words of the document that the next answers are about: they stand ahead of each wrong one. */
+    void by(String words) {
+        sentence = " [" + words + "]";
+    }
+
     void is(String what, long got, long due) {
         asked++;
         if (got != due) {
             wrong++;
-            System.out.println(test + ": " + what + " answered " + got + ", due is " + due);
+            System.out.println(test + sentence + ": " + what + " answered " + got + ", due is " + due);
         }
     }
 

@@ -1,6 +1,3 @@
-import java.lang.reflect.Method;
-import java.util.HashMap;
-import java.util.Map;
 import java.util.Random;
 
 /** All promises at once: long runs of drawn calls, each answered by the class and by the model. */
@@ -17,18 +14,14 @@ public final class ModelTest {
         "drawn 8 0 60 1 999999 0 1", "image 2 0 1", "restore 2 0 1", "kind 4 0 7", "as 8 0 7 0 5", "ask 10 0 7 0 1",
         "trace 8 0 15", "count 10 0 7", "status 8"};
 
-    private final Map<String, Method> methods = new HashMap<>();
     private final Random draw = new Random(20261117);
     private MarbleRun x;
     private Model model;
     private StringBuilder history;
     private int wrong = 0, asked = 0;
 
-    public static void main(String[] args) throws Exception {
+    public static void main(String[] args) {
         ModelTest test = new ModelTest();
-        for (Method m : MarbleRun.class.getMethods()) {
-            test.methods.put(m.getName(), m);
-        }
         for (int run = 0; run < RUNS && test.wrong == 0; run++) {
             test.oneRun(run);
         }
@@ -38,7 +31,7 @@ public final class ModelTest {
         }
     }
 
-    private void oneRun(int run) throws Exception {
+    private void oneRun(int run) {
         x = new MarbleRun();
         model = new Model();
         history = new StringBuilder();
@@ -62,17 +55,11 @@ public final class ModelTest {
         dump();
     }
 
-    private long same(String name, int... args) throws Exception {
-        Object[] boxed = new Object[args.length];
-        StringBuilder call = new StringBuilder(name).append('(');
-        for (int i = 0; i < args.length; i++) {
-            boxed[i] = args[i];
-            call.append(i > 0 ? ", " : "").append(args[i]);
-        }
-        long got = ((Number) methods.get(name).invoke(x, boxed)).longValue();
+    private long same(String name, int... args) {
+        long got = Calls.answer(x, name, args);
         long due = model.call(name, args);
         asked++;
-        history.append(call).append(") ").append(got).append('\n');
+        history.append(Calls.told(name, args)).append(' ').append(got).append('\n');
         if (got != due && wrong == 0) {
             wrong++;
             System.out.print(history);
@@ -81,7 +68,7 @@ public final class ModelTest {
         return got;
     }
 
-    private void tell(String text) throws Exception {
+    private void tell(String text) {
         for (int i = 0; i < text.length(); i++) {
             same("feed", text.charAt(i));
         }
@@ -125,7 +112,7 @@ public final class ModelTest {
         return s.substring(0, Math.min(110, s.length()));
     }
 
-    private void drawnCall() throws Exception {
+    private void drawnCall() {
         int all = 0;
         for (String line : CALL_TABLE) {
             all += Integer.parseInt(line.split(" ")[1]);
@@ -162,7 +149,7 @@ public final class ModelTest {
     }
 
     /** A row as the trays will really tell, but for a change now and then, so that something fits it. */
-    private int watch() throws Exception {
+    private int watch() {
         if (model.call("rest") < 0) {
             return 1;
         }
@@ -182,7 +169,7 @@ public final class ModelTest {
         return n + 10;
     }
 
-    private void dump() throws Exception {
+    private void dump() {
         for (int what = 0; what <= 7; what++) {
             same("count", what);
             same("stand", what);
