@@ -27,6 +27,20 @@ final class Calls {
         }
     }
 
+    /** A call as tables have it: its name and its numbers, parted by blanks. */
+    static long answerLine(MarbleRun x, String line) {
+        return answer(x, line.split(" ")[0], numbersOf(line));
+    }
+
+    static int[] numbersOf(String line) {
+        String[] parts = line.split(" ");
+        int[] args = new int[parts.length - 1];
+        for (int i = 0; i < args.length; i++) {
+            args[i] = Integer.parseInt(parts[i + 1]);
+        }
+        return args;
+    }
+
     static String told(String name, int... args) {
         StringBuilder s = new StringBuilder(name).append('(');
         for (int i = 0; i < args.length; i++) {

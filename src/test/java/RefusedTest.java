@@ -1,3 +1,4 @@
+import java.util.Arrays;
 import java.util.function.Supplier;
 
 /**
@@ -255,7 +256,7 @@ public final class RefusedTest {
             int many = Integer.parseInt(line.split(" ")[1]);
             for (int v : new int[] {LEAST, -1, 0, 1, MOST}) {
                 int[] args = new int[many];
-                java.util.Arrays.fill(args, v);
+                Arrays.fill(args, v);
                 refused(MarbleRun::new, Due.STATE, name, args);
             }
         }
@@ -315,15 +316,10 @@ public final class RefusedTest {
             "order 40 4", "order 40 5", "leads 0 40 0", "sets 54 2", "share 3 999", "byTurns 4 20", "jam 4 30 10 1",
             "jam 4 30 5 0", "drawn 60 999999 1", "drawn 60 1 0"};
         for (String line : most) {
-            String[] parts = line.split(" ");
-            int[] args = new int[parts.length - 1];
-            for (int i = 0; i < args.length; i++) {
-                args[i] = Integer.parseInt(parts[i + 1]);
-            }
             MarbleRun x = busy();
-            Calls.answer(x, parts[0], args);
+            Calls.answerLine(x, line);
             due.is("status behind " + line, x.status(), 2);
-            unchanged(RefusedTest::busy, parts[0], args);
+            unchanged(RefusedTest::busy, line.split(" ")[0], Calls.numbersOf(line));
         }
         for (int which = 0; which <= 1; which++) {
             MarbleRun x = busy();
