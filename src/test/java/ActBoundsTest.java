@@ -497,6 +497,12 @@ public final class ActBoundsTest {
             due.is("stand " + what, x.stand(what), Due.BAD);
             due.is("no RUN, ahead of BAD", new MarbleRun().stand(what), Due.STATE);
         }
+        // On, and held by, the last of eight pieces.
+        String last = "b1;m1,0;m1,0;" + CHAIN.substring(0, 49) + "h0,8,9;";
+        due.is("RUN on piece 7", after(last, 7).stand(2), 3);
+        due.is("how many RUN there", after(last, 7).count(4), 2);
+        due.is("which RUN on it", after(last, 7).piece(7, 6), 3);
+        due.is("HELD by piece 7", after("b1;m1,0;" + CHAIN.substring(0, 49) + "h0,8,9;", 8).stand(3), 1);
         due.is("all six wait", Due.told("b1;m1,0;m1,0;m1,0;m1,0;m1,0;m1,0;g0,8,9;").stand(1), 63);
     }
 }

@@ -15,6 +15,8 @@ public final class ForetoldBoundsTest {
         tipsOfSeveral();
         orders();
         orderOfOneAndOfSix();
+        lastOfAllOrders();
+        ordersOneBehindTheOther();
         leads();
         leadsOfSeveral();
         sets();
@@ -217,8 +219,9 @@ public final class ForetoldBoundsTest {
         for (int k = 0; k < 3; k++) {
             due.is("the k-th " + k, x.order(40, k), first[k]);
         }
-        due.is("not so many", x.order(40, 3), Due.NONE);
-        due.is("not nearly so many", x.order(40, MOST), Due.NONE);
+        for (int k : new int[] {3, 4, 5, 6, 7, 720, MOST}) {
+            due.is("not so many as " + k, x.order(40, k), Due.NONE);
+        }
         due.is("k -2", x.order(40, -2), Due.BAD);
         due.is("k least", x.order(40, LEAST), Due.BAD);
         for (int n : beyond(1, 40)) {
@@ -263,6 +266,36 @@ public final class ForetoldBoundsTest {
         due.is("the last one's weight", x.order(2, 0), 5);
         due.is("then the first ones'", x.order(2, 1), 0);
         due.is("and the one before the last", x.order(2, 5), 4);
+    }
+
+    /** Its WEIGHTS are told so that no other order brings as much as the last one of all. */
+    private static void lastOfAllOrders() {
+        due.by("of all orders in which WEIGHTS of MARBLES could be given to MARBLES now");
+        String text = "b5;m7,5;m2,6;m3,7;m6,4;m1,1;m9,7;h0,2,3;s0,3,3;w1,5,3;s1,5,4;s0,5,6;g1,7,9;";
+        MarbleRun x = Due.told(text);
+        due.is("how much", x.order(40, -1), 18);
+        for (int k = 0; k < 6; k++) {
+            due.is("the k-th " + k, x.order(40, k), 5 - k);
+        }
+    }
+
+    /** Of four marbles over a gate the second and the fourth come right; marble 0 and marble 3 weigh most. */
+    private static void ordersOneBehindTheOther() {
+        due.by("that by which WEIGHT in THE RIGHT TRAY is most behind them, of several the first (by numbers)");
+        MarbleRun x = Due.told("b1;m9,0;m2,0;m5,1;m7,3;s0,8,1;g0,8,9;");
+        int[] best = {1, 0, 2, 3};
+        due.is("much", x.order(40, -1), 16);
+        due.is("little, though much was before", x.order(2, -1), 9);
+        for (int k = 0; k < 4; k++) {
+            due.is("much: not by the first order, " + k, x.order(40, k), best[k]);
+            due.is("little: not by the first order, " + k, x.order(2, k), best[k]);
+            due.is("none: by the first order, " + k, x.order(1, k), k);
+        }
+        due.is("none", x.order(1, -1), 0);
+        x.tips(40, 0);
+        x.leads(0, 40, 0);
+        due.is("none behind other questions", x.order(1, 0), 0);
+        due.is("much again", x.order(40, -1), 16);
     }
 
     private static void leads() {
@@ -347,6 +380,10 @@ public final class ForetoldBoundsTest {
         due.is("has none", x.sets(0, 1), 0);
         x.again(0, 9);
         due.is("thrown anew", x.sets(15, 1), 3);
+        x = Due.told("b1;m4,0;m4,0;m4,0;g0,8,9;");
+        x.ticks(1);
+        due.is("neither those in THE LEFT nor those in THE RIGHT one", x.sets(4, 0), 0);
+        due.is("none of 8, either", x.sets(8, 0), 0);
     }
 
     private static void shares() {
@@ -413,6 +450,13 @@ public final class ForetoldBoundsTest {
         int[] each = {-2, 0, -2, 0, -2};
         for (int n = 0; n <= 4; n++) {
             due.is("two marbles, " + n, w.byTurns(n, 2), each[n]);
+        }
+        // It lies right as it is: the one does nothing, but the other turns it.
+        MarbleRun v = Due.told("b1;m1,0;g1,8,9;");
+        int[] kept = {1, 1, -1, 1, -1};
+        for (int n = 0; n <= 4; n++) {
+            due.is("as it should be, " + n, v.byTurns(n, 1), kept[n]);
+            due.is("asked of an object of its own, " + n, Due.told("b1;m1,0;g1,8,9;").byTurns(n, 1), kept[n]);
         }
         for (int n : beyond(0, 4)) {
             due.is("n " + n, x.byTurns(n, 1), Due.BAD);
