@@ -1004,12 +1004,14 @@ public final class MarbleRun {
     /** Foretells on a track of its own, so that the run itself stays as it is. */
     private static final class Seer {
         private static final int MOST_SETS = 1 << MOST_PIECES, MOST_ORDERS = 720;
+        private static final int MOST_WAYS = 1 << 2 * MOST_MARBLES, UNKNOWN = -1;
 
         private final Track look = new Track();
         private final int[] worths = new int[MOST_SETS];
         private final int[] worthsAhead = new int[MOST_SETS];
         private final int[] tried = new int[MOST_MARBLES];
         private final int[] best = new int[MOST_MARBLES];
+        private final int[] comeRight = new int[MOST_WAYS];
         private int[] seen = null;
         private int seenFrom = 0;
         private int seenTicks = 0;
@@ -1104,41 +1106,47 @@ public final class MarbleRun {
 
         void chooseOrder(Track now, int n) {
             most = -1;
+            Arrays.fill(comeRight, UNKNOWN);
             for (int k = 0; k < now.marbles; k++) {
                 tried[k] = k;
             }
             boolean more = true;
             for (int k = 0; k < MOST_ORDERS && more; k++) {
-                if (isFirstOfAlike(now)) {
-                    tryOrder(now, n);
-                }
+                preferOrder(now, rightOnes(now, n));
                 more = stepToNextOrder(now.marbles);
             }
         }
 
-        private void tryOrder(Track now, int n) {
-            look.becomeLike(now);
+        /**
+         * Pieces tell weights apart by the bar, and by even or odd, alone: all orders that are alike in
+         * this send the marbles the same ways, so that one of them is looked at for all.
+         */
+        private int rightOnes(Track now, int n) {
+            int ways = 0;
             for (int k = 0; k < now.marbles; k++) {
-                look.weight[k] = now.weight[tried[k]];
+                int weight = now.weight[tried[k]];
+                ways = 4 * ways + (weight >= now.bar ? 2 : 0) + weight % 2;
             }
-            goOn(n);
-            int weight = look.weightOf(look.bitsAt(RIGHT_TRAY));
+            if (comeRight[ways] == UNKNOWN) {
+                look.becomeLike(now);
+                for (int k = 0; k < now.marbles; k++) {
+                    look.weight[k] = now.weight[tried[k]];
+                }
+                goOn(n);
+                comeRight[ways] = look.bitsAt(RIGHT_TRAY);
+            }
+            return comeRight[ways];
+        }
+
+        private void preferOrder(Track now, int bits) {
+            int weight = 0;
+            for (int k = 0; k < now.marbles; k++) {
+                weight += (bits >> k & 1) * now.weight[tried[k]];
+            }
             if (weight > most) {
                 most = weight;
                 System.arraycopy(tried, 0, best, 0, MOST_MARBLES);
             }
-        }
-
-        /** Orders that give out the same weights end alike; only the first of them can be chosen. */
-        private boolean isFirstOfAlike(Track now) {
-            for (int a = 0; a < now.marbles; a++) {
-                for (int b = a + 1; b < now.marbles; b++) {
-                    if (tried[a] > tried[b] && now.weight[tried[a]] == now.weight[tried[b]]) {
-                        return false;
-                    }
-                }
-            }
-            return true;
         }
 
         private boolean stepToNextOrder(int marbles) {

@@ -17,13 +17,16 @@ public final class ForetoldBoundsTest {
         orderOfOneAndOfSix();
         lastOfAllOrders();
         ordersOneBehindTheOther();
+        ordersAtEveryBar();
         leads();
         leadsOfSeveral();
         sets();
         setsOfNone();
         shares();
+        sharesOfOne();
         sharesThatAreOver();
         turns();
+        turnsOfEight();
         turnsOfTicks();
         due.end();
     }
@@ -298,6 +301,36 @@ public final class ForetoldBoundsTest {
         due.is("much again", x.order(40, -1), 16);
     }
 
+    /** A sill parts four WEIGHTS by every BAR, two scales by whether they are even: all orders, as the model has them. */
+    private static void ordersAtEveryBar() {
+        due.by("of all orders in which WEIGHTS of MARBLES could be given to MARBLES now .. of several the first (by numbers)");
+        String[] marbles = {"m4,0;m5,1;m6,2;m7,3;", "m9,0;m1,0;m8,0;m2,0;", "m3,2;m3,1;m4,0;m8,0;m5,0;", "m6,0;m2,0;m4,1;"};
+        String[] pieces = {"s0,1,2;w0,8,9;w0,9,8;", "w0,1,2;s0,8,9;s0,9,8;", "h0,1,1;s0,8,2;w0,8,9;", "g1,1,2;l0,8,9;w0,8,9;"};
+        for (int bar = 1; bar <= 9; bar++) {
+            for (int k = 0; k < marbles.length; k++) {
+                for (String below : pieces) {
+                    sameOrder("b" + bar + ";" + marbles[k] + below);
+                }
+            }
+        }
+    }
+
+    private static void sameOrder(String text) {
+        MarbleRun x = Due.told(text);
+        Model model = new Model();
+        for (int i = 0; i < text.length(); i++) {
+            model.call("feed", text.charAt(i));
+        }
+        model.call("run");
+        for (int ticks = 0; ticks <= 2; ticks += 2) {
+            for (int k = -1; k <= 5; k++) {
+                due.is(text + " " + ticks + ", the k-th " + k, x.order(20, k), model.call("order", 20, k));
+            }
+            x.ticks(2);
+            model.call("ticks", 2);
+        }
+    }
+
     private static void leads() {
         due.by("LEAD for a PIECE, n TICKS (1 to 40): whither its RIGHT side should lead from now on (from its number and 1 on "
             + "to 9)");
@@ -411,6 +444,18 @@ public final class ForetoldBoundsTest {
         due.is("no RUN", new MarbleRun().share(0, 0), Due.BAD);
     }
 
+    private static void sharesOfOne() {
+        due.by("each PIECE gets as many as n times WENT by all WENT");
+        MarbleRun x = Due.told("b1;m1,0;g0,2,9;s0,8,9;s0,8,9;");
+        x.ticks(1);
+        due.is("all WENT", x.count(5), 1);
+        for (int n : new int[] {0, 1, 2, 998, 999}) {
+            due.is("all of " + n, x.share(0, n), n);
+            due.is("none of " + n + " to the second", x.share(1, n), 0);
+            due.is("none of " + n + " to the third", x.share(2, n), 0);
+        }
+    }
+
     private static void sharesThatAreOver() {
         due.by("what is over 1 each to the first ones over which any went");
         // One went over the pieces 0, 2, 4 and 6 each.
@@ -467,6 +512,21 @@ public final class ForetoldBoundsTest {
         due.is("six in THE LEFT", all.byTurns(4, 20), -6);
         all = Due.told("b1;m1,0;m1,0;m1,0;m1,0;m1,0;m1,0;h0,9,9;");
         due.is("six in THE RIGHT", all.byTurns(4, 20), 6);
+    }
+
+    /** Eight gates, each of which must be tipped for the marble to come right; the eighth decides alone in the other run. */
+    private static void turnsOfEight() {
+        due.by("the one tips a PIECE (POINT is the other one), or does nothing .. PIECES .. 8 at most");
+        int[] last = {-1, 1, -1, 1, -1};
+        for (int n = 0; n <= 4; n++) {
+            MarbleRun x = Due.told("b1;m1,0;" + CHAIN);
+            due.is("the eighth of eight, " + n, x.byTurns(n, 8), last[n]);
+            due.is("not there yet, " + n, x.byTurns(n, 7), 0);
+            MarbleRun all = Due.told("b1;m1,0;g0,8,1;g0,8,2;g0,8,3;g0,8,4;g0,8,5;g0,8,6;g0,8,7;g0,8,9;");
+            due.is("all of eight, " + n, all.byTurns(n, 20), -1);
+            MarbleRun right = Due.told("b1;m1,0;g0,9,1;g0,9,2;g0,9,3;g0,9,4;g0,9,5;g0,9,6;g0,9,7;g0,9,8;");
+            due.is("none of eight, " + n, right.byTurns(n, 20), 1);
+        }
     }
 
     private static void turnsOfTicks() {
