@@ -74,14 +74,14 @@ public final class AskBoundsTest {
 
     private static void restored() {
         due.by("The RUN is as an IMAGE kept it");
-        for (int k = 0; k < Whole.PORTIONS; k++) {
+        for (String part : Whole.PARTS) {
             MarbleRun one = kept();
             one.restore(1);
             MarbleRun other = kept();
             Due.read(other, "b9;m1,0;m1,0;m1,0;m1,0;m1,0;m1,0;w0,8,9;");
             other.ticks(20);
             due.is("restored", other.restore(1), 1);
-            due.holds("portion " + k, Whole.portion(one, k).equals(Whole.portion(other, k)));
+            due.holds("alike by " + part, Whole.part(one, part).equals(Whole.part(other, part)));
         }
     }
 

@@ -32,37 +32,6 @@ public final class RefusedTest {
 
     // ---- scenes
 
-    /**
-     * Five marbles (one waits, one runs, one is held, one is in each tray), four pieces, six acts, one image of
-     * two, two rows of eight, bytes on the tape, a fault, a trace; the status is 2.
-     */
-    private static MarbleRun busy() {
-        MarbleRun x = busyWithEmptyTape();
-        x.feed('b');
-        x.feed('0');
-        return x;
-    }
-
-    private static MarbleRun busyWithEmptyTape() {
-        MarbleRun x = new MarbleRun();
-        Due.read(x, "b0");
-        Due.read(x, "b5;m3,0;m7,0;m2,1;m9,20;m5,2;g0,1,2;h0,3,9;s1,8,9;l1,8,9;");
-        x.image(0);
-        x.row(0, 0, 3);
-        x.set(0, 1, 10);
-        x.row(1, 2, 5);
-        x.set(1, 4, 1);
-        x.ticks(1);
-        x.tip(0);
-        x.ticks(1);
-        x.lead(3, 0, 9);
-        x.tip(3);
-        x.ticks(1);
-        x.ask(3, 0);
-        x.set(0, 3, 1);
-        return x;
-    }
-
     private static MarbleRun withFullTape() {
         MarbleRun x = Due.told("b1;m1,0;g0,8,9;");
         for (int k = 0; k < 110; k++) {
@@ -80,7 +49,7 @@ public final class RefusedTest {
     }
 
     private static void sceneIsBusy() {
-        MarbleRun x = busy();
+        MarbleRun x = Scenes.busy();
         for (int what = 1; what <= 5; what++) {
             due.is("the busy scene, stand " + what, Integer.bitCount(x.stand(what)), 1);
         }
@@ -94,12 +63,12 @@ public final class RefusedTest {
     // ---- how it is looked at
 
     private static void unchanged(Supplier<MarbleRun> scene, String name, int... args) {
-        for (int k = 0; k < Whole.PORTIONS; k++) {
+        for (String part : Whole.PARTS) {
             MarbleRun one = scene.get();
             Calls.answer(one, name, args);
-            String then = Whole.portion(one, k);
-            String before = Whole.portion(scene.get(), k);
-            due.holds(Calls.told(name, args) + " leaves portion " + k, then.equals(before));
+            String then = Whole.part(one, part);
+            String before = Whole.part(scene.get(), part);
+            due.holds(Calls.told(name, args) + " leaves " + part, part.equals(Whole.STATUS) || then.equals(before));
         }
     }
 
@@ -118,7 +87,7 @@ public final class RefusedTest {
         for (int v : bad) {
             int[] args = good.clone();
             args[at] = v;
-            refused(RefusedTest::busy, Due.BAD, name, args);
+            refused(Scenes::busy, Due.BAD, name, args);
         }
     }
 
@@ -205,14 +174,14 @@ public final class RefusedTest {
     // ---- STATE, FULL, FINDINGS
 
     private static void states() {
-        MarbleRun x = busy();
+        MarbleRun x = Scenes.busy();
         for (int m = 0; m < 5; m++) {
             int where = x.marble(m, 2);
             if (where != 8 && where != 9) {
-                refused(RefusedTest::busy, Due.STATE, "again", m, 1);
+                refused(Scenes::busy, Due.STATE, "again", m, 1);
             }
         }
-        refused(RefusedTest::busy, Due.STATE, "restore", 1);
+        refused(Scenes::busy, Due.STATE, "restore", 1);
         refused(() -> Due.told("b1;m1,0;g0,8,9;"), Due.STATE, "undo");
     }
 
@@ -226,25 +195,25 @@ public final class RefusedTest {
     }
 
     private static void findings() {
-        refused(RefusedTest::busy, Due.SIZE, "row", 0, 0, -1);
-        refused(RefusedTest::busy, Due.SIZE, "row", 7, 2, LEAST);
-        refused(RefusedTest::busy, Due.NULL, "set", 2, 0, 1);
-        refused(RefusedTest::busy, Due.PLACE, "set", 0, 3, 1);
-        refused(RefusedTest::busy, Due.PLACE, "set", 0, -1, 1);
-        refused(RefusedTest::busy, Due.NULL, "copy", 2, 0, 0, 0, 1);
-        refused(RefusedTest::busy, Due.NULL, "copy", 0, 0, 2, 0, 1);
-        refused(RefusedTest::busy, Due.STORE, "copy", 0, 0, 1, 0, 1);
-        refused(RefusedTest::busy, Due.PLACE, "copy", 1, 4, 1, 0, 2);
-        refused(RefusedTest::busy, Due.PLACE, "copy", 1, 0, 1, 4, 2);
-        refused(RefusedTest::busy, Due.PLACE, "copy", 1, 4, 1, 0, -1);
-        refused(RefusedTest::busy, Due.NULL, "drop", 2);
+        refused(Scenes::busy, Due.SIZE, "row", 0, 0, -1);
+        refused(Scenes::busy, Due.SIZE, "row", 7, 2, LEAST);
+        refused(Scenes::busy, Due.NULL, "set", 2, 0, 1);
+        refused(Scenes::busy, Due.PLACE, "set", 0, 3, 1);
+        refused(Scenes::busy, Due.PLACE, "set", 0, -1, 1);
+        refused(Scenes::busy, Due.NULL, "copy", 2, 0, 0, 0, 1);
+        refused(Scenes::busy, Due.NULL, "copy", 0, 0, 2, 0, 1);
+        refused(Scenes::busy, Due.STORE, "copy", 0, 0, 1, 0, 1);
+        refused(Scenes::busy, Due.PLACE, "copy", 1, 4, 1, 0, 2);
+        refused(Scenes::busy, Due.PLACE, "copy", 1, 0, 1, 4, 2);
+        refused(Scenes::busy, Due.PLACE, "copy", 1, 4, 1, 0, -1);
+        refused(Scenes::busy, Due.NULL, "drop", 2);
         for (String name : new String[] {"who", "weights"}) {
-            refused(RefusedTest::busy, Due.NULL, name, 0, 0, 2, 0, 1);
-            refused(RefusedTest::busy, Due.PLACE, name, 0, 0, 0, 3, 1);
-            refused(RefusedTest::busy, Due.PLACE, name, 0, 0, 0, 0, 4);
-            refused(RefusedTest::busy, Due.PLACE, name, 0, 0, 0, -1, 1);
+            refused(Scenes::busy, Due.NULL, name, 0, 0, 2, 0, 1);
+            refused(Scenes::busy, Due.PLACE, name, 0, 0, 0, 3, 1);
+            refused(Scenes::busy, Due.PLACE, name, 0, 0, 0, 0, 4);
+            refused(Scenes::busy, Due.PLACE, name, 0, 0, 0, -1, 1);
         }
-        refused(RefusedTest::busy, Due.KIND, "as", 0, 5);
+        refused(Scenes::busy, Due.KIND, "as", 0, 5);
     }
 
     /** Without a RUN: what asks for it by STATE does so whatever its numbers are; all others are BAD. */
@@ -286,27 +255,27 @@ public final class RefusedTest {
 
     private static void firstThatFits() {
         due.by("the first of these that fits, but as told: BAD .., STATE .., FULL .., then FINDINGS, of several the first");
-        refused(RefusedTest::busy, Due.BAD, "row", 8, 0, -1);
-        refused(RefusedTest::busy, Due.BAD, "row", 0, 3, -1);
-        refused(RefusedTest::busy, Due.BAD, "set", 8, -1, 1);
-        refused(RefusedTest::busy, Due.NULL, "set", 2, -1, 1);
-        refused(RefusedTest::busy, Due.BAD, "copy", 2, -1, 8, -1, -1);
-        refused(RefusedTest::busy, Due.BAD, "copy", -1, -1, 2, -1, -1);
-        refused(RefusedTest::busy, Due.NULL, "copy", 2, -1, 1, -1, -1);
-        refused(RefusedTest::busy, Due.NULL, "copy", 0, -1, 2, -1, -1);
-        refused(RefusedTest::busy, Due.STORE, "copy", 0, -1, 1, -1, -1);
-        refused(RefusedTest::busy, Due.STORE, "copy", 0, 0, 1, 0, 0);
-        refused(RefusedTest::busy, Due.BAD, "again", 3, 0);
-        refused(RefusedTest::busy, Due.BAD, "again", 3, 10);
+        refused(Scenes::busy, Due.BAD, "row", 8, 0, -1);
+        refused(Scenes::busy, Due.BAD, "row", 0, 3, -1);
+        refused(Scenes::busy, Due.BAD, "set", 8, -1, 1);
+        refused(Scenes::busy, Due.NULL, "set", 2, -1, 1);
+        refused(Scenes::busy, Due.BAD, "copy", 2, -1, 8, -1, -1);
+        refused(Scenes::busy, Due.BAD, "copy", -1, -1, 2, -1, -1);
+        refused(Scenes::busy, Due.NULL, "copy", 2, -1, 1, -1, -1);
+        refused(Scenes::busy, Due.NULL, "copy", 0, -1, 2, -1, -1);
+        refused(Scenes::busy, Due.STORE, "copy", 0, -1, 1, -1, -1);
+        refused(Scenes::busy, Due.STORE, "copy", 0, 0, 1, 0, 0);
+        refused(Scenes::busy, Due.BAD, "again", 3, 0);
+        refused(Scenes::busy, Due.BAD, "again", 3, 10);
         for (String name : new String[] {"who", "weights"}) {
-            refused(RefusedTest::busy, Due.BAD, name, 8, 0, 2, -1, 1);
-            refused(RefusedTest::busy, Due.BAD, name, 0, 2, 2, -1, 1);
-            refused(RefusedTest::busy, Due.BAD, name, 0, 0, 2, -1, 13);
-            refused(RefusedTest::busy, Due.BAD, name, 0, 0, 0, 3, 0);
-            refused(RefusedTest::busy, Due.NULL, name, 0, 0, 2, -1, 1);
+            refused(Scenes::busy, Due.BAD, name, 8, 0, 2, -1, 1);
+            refused(Scenes::busy, Due.BAD, name, 0, 2, 2, -1, 1);
+            refused(Scenes::busy, Due.BAD, name, 0, 0, 2, -1, 13);
+            refused(Scenes::busy, Due.BAD, name, 0, 0, 0, 3, 0);
+            refused(Scenes::busy, Due.NULL, name, 0, 0, 2, -1, 1);
         }
-        refused(RefusedTest::busy, Due.BAD, "as", 4, 5);
-        refused(RefusedTest::busy, Due.BAD, "as", 0, 6);
+        refused(Scenes::busy, Due.BAD, "as", 4, 5);
+        refused(Scenes::busy, Due.BAD, "as", 0, 6);
     }
 
     // ---- what changes nothing though it is not refused
@@ -316,45 +285,46 @@ public final class RefusedTest {
             "order 40 4", "order 40 5", "leads 0 40 0", "sets 54 2", "share 3 999", "byTurns 4 20", "jam 4 30 10 1",
             "jam 4 30 5 0", "drawn 60 999999 1", "drawn 60 1 0"};
         for (String line : most) {
-            MarbleRun x = busy();
+            MarbleRun x = Scenes.busy();
             Calls.answerLine(x, line);
             due.is("status behind " + line, x.status(), 2);
-            unchanged(RefusedTest::busy, line.split(" ")[0], Calls.numbersOf(line));
+            unchanged(Scenes::busy, line.split(" ")[0], Calls.numbersOf(line));
         }
         for (int which = 0; which <= 1; which++) {
-            MarbleRun x = busy();
+            MarbleRun x = Scenes.busy();
             x.who(3, which, 0, 0, 3);
             due.is("status behind who", x.status(), 0);
-            unchanged(RefusedTest::busy, "who", 3, which, 0, 0, 3);
-            unchanged(RefusedTest::busy, "weights", 4, which, 1, 0, 5);
+            unchanged(Scenes::busy, "who", 3, which, 0, 0, 3);
+            unchanged(Scenes::busy, "weights", 4, which, 1, 0, 5);
         }
     }
 
     private static void told() {
         for (int what = 0; what <= 7; what++) {
-            unchanged(RefusedTest::busy, "count", what);
-            unchanged(RefusedTest::busy, "piece", 1, Math.min(what, 6));
-            unchanged(RefusedTest::busy, "stand", Math.min(what, 5));
-            unchanged(RefusedTest::busy, "as", Math.min(what, 3), 0);
-            unchanged(RefusedTest::busy, "trace", what);
+            unchanged(Scenes::busy, "count", what);
+            unchanged(Scenes::busy, "piece", 1, Math.min(what, 6));
+            unchanged(Scenes::busy, "stand", Math.min(what, 5));
+            unchanged(Scenes::busy, "as", Math.min(what, 3), 0);
+            unchanged(Scenes::busy, "trace", what);
         }
         for (int what = 0; what <= 2; what++) {
-            unchanged(RefusedTest::busy, "marble", 2, what);
+            unchanged(Scenes::busy, "marble", 2, what);
         }
-        unchanged(RefusedTest::busy, "kind", 2);
-        unchanged(RefusedTest::busy, "status");
-        unchanged(RefusedTest::busy, "fault");
+        unchanged(Scenes::busy, "kind", 2);
+        unchanged(Scenes::busy, "status");
+        unchanged(Scenes::busy, "fault");
     }
 
     /** A text with a FAULT empties the tape, and leaves all else as if it had never come. */
     private static void faults() {
-        MarbleRun x = busy();
+        MarbleRun x = Scenes.busy();
         due.is("run()", x.run(), -1000101);
         due.is("status behind it", x.status(), 2);
-        for (int k = 0; k < Whole.PORTIONS; k++) {
-            MarbleRun one = busy();
+        for (String part : Whole.PARTS) {
+            MarbleRun one = Scenes.busy();
             one.run();
-            due.holds("portion " + k, Whole.portion(one, k).equals(Whole.portion(busyWithEmptyTape(), k)));
+            MarbleRun other = Scenes.busyWithTape("");
+            due.holds("it leaves " + part, Whole.part(one, part).equals(Whole.part(other, part)));
         }
     }
 }

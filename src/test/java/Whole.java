@@ -1,40 +1,65 @@
 /**
- * All that the calls can tell of an object but its status, as a text: two objects that tell the same are alike.
- * It is told in portions, each on an object of its own, because much of it can only be seen by changing it and
+ * All that the calls can tell of an object, part by part, as texts: two objects of which all parts are alike are
+ * alike. Each part is told of an object of its own, because much of it can only be seen by changing it and
  * because an object answers 512 calls.
  */
 final class Whole {
-    static final int PORTIONS = 4;
+    static final String STATUS = "status", FAULT = "fault", TRACE = "trace", ROWS = "rows", TAPE = "tape",
+        RUN = "run", ACTS = "acts", IMAGES = "images";
+    static final String[] PARTS = {STATUS, FAULT, TRACE, ROWS, TAPE, RUN, ACTS, IMAGES};
 
     private Whole() {
     }
 
-    static String portion(MarbleRun x, int k) {
+    static String part(MarbleRun x, String name) {
         StringBuilder s = new StringBuilder();
-        switch (k) {
-            case 0: tellAll(x, s); break;
-            case 1: tellActs(x, s); break;
-            case 2: tellImages(x, s); break;
-            default: tellRows(x, s); break;
+        switch (name) {
+            case STATUS: tell(s, x.status()); break;
+            case FAULT: tell(s, x.fault()); break;
+            case TRACE: tellTrace(x, s); break;
+            case ROWS: tellRows(x, s); break;
+            case TAPE: tellTape(x, s); break;
+            case RUN: tellRun(x, s); break;
+            case ACTS: tellActs(x, s); break;
+            case IMAGES: tellImages(x, s); break;
+            default: throw new IllegalArgumentException(name);
         }
         return s.toString();
     }
 
     private static void tell(StringBuilder s, long answer) {
-        s.append(answer).append(' ');
+        s.append(s.length() > 0 ? " " : "").append(wordOf(answer));
     }
 
-    private static void tellAll(MarbleRun x, StringBuilder s) {
-        tell(s, x.fault());
-        for (int i = 0; i <= 16; i++) {
-            tell(s, x.trace(i));
+    private static String wordOf(long answer) {
+        switch ((int) answer) {
+            case Due.NONE: return "NONE";
+            case Due.STATE: return "STATE";
+            case Due.NULL: return "NULL";
+            case Due.PLACE: return "PLACE";
+            default: return Long.toString(answer);
         }
-        tell(s, x.count(0));
-        tell(s, x.count(6));
-        tellRun(x, s);
-        // What is on the tape shows by the place of its fault.
+    }
+
+    private static void tellTrace(MarbleRun x, StringBuilder s) {
+        int i = 0;
+        while (i < 16 && x.trace(i) != Due.NONE) {
+            tell(s, x.trace(i));
+            i++;
+        }
+        tell(s, x.trace(i));
+    }
+
+    /** What is on the tape shows by the place of its fault, or by the run that is read of it. */
+    private static void tellTape(MarbleRun x, StringBuilder s) {
         tell(s, x.count(7));
-        tell(s, x.run());
+        int answer = x.run();
+        tell(s, answer);
+        if (answer > 0) {
+            tellRun(x, s);
+        } else {
+            tell(s, x.fault());
+        }
     }
 
     private static void tellRun(MarbleRun x, StringBuilder s) {
@@ -53,9 +78,13 @@ final class Whole {
                 tell(s, x.piece(p, what));
             }
         }
+        tell(s, x.trays(3, 1));
+        tell(s, x.trays(60, 0));
+        tell(s, x.trays(60, 1));
     }
 
     private static void tellActs(MarbleRun x, StringBuilder s) {
+        tell(s, x.count(6));
         int left = 0;
         while (left >= 0) {
             left = x.undo();
@@ -79,15 +108,19 @@ final class Whole {
         }
     }
 
-    /** The first items, of which those that are not 0, 1 or 10 look alike; each row's lane and how many it has. */
+    /** The items, of which those that are not 0, 1 or 10 look alike; each row's lane and how many it has. */
     private static void tellRows(MarbleRun x, StringBuilder s) {
+        tell(s, x.count(0));
         x.run();
         for (String text : new String[] {"b1;m1,20;g0,8,9;", "b1;m1,0;g0,8,9;"}) {
             Due.read(x, text);
             for (int row = 0; row < 8; row++) {
-                for (int i = 0; i < 5; i++) {
+                int i = 0;
+                while (i < 40 && x.who(0, 1, row, i, 1) >= 0) {
                     tell(s, x.who(0, 1, row, i, 1));
+                    i++;
                 }
+                tell(s, x.who(0, 1, row, i, 1));
             }
         }
         for (int row = 0; row < 8; row++) {
