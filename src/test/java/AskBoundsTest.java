@@ -183,7 +183,7 @@ public final class AskBoundsTest {
 
     /** POINTS 0, 1, 1, 1, 0, then three of the others; over each piece of the left way went two. */
     private static void asks() {
-        due.by("0 SIZE .. 1 MARK: the BODY told for the KIND begins, else that of the nearest KIND that it is, too, else the one "
+        due.by("0 SIZE .. 1 MARK .. the BODY told for the KIND begins, else that of the nearest KIND that it is, too, else the one "
             + "that is lent");
         MarbleRun x = Due.told("b5;m3,0;m7,0;g0,1,1;l1,2,2;h1,3,3;s1,4,4;w0,5,5;l0,6,6;h0,7,7;g1,8,9;");
         x.ticks(8);
@@ -220,7 +220,7 @@ public final class AskBoundsTest {
     }
 
     private static void tracesOfAsks() {
-        due.by("THE TRACE is empty ahead of it. Number i of THE TRACE; NONE.");
+        due.by("THE TRACE is empty ahead of it. .. Number i of THE TRACE; NONE.");
         MarbleRun x = Due.told(ALL_KINDS);
         due.is("at first", x.trace(0), Due.NONE);
         x.ask(1, 0);
@@ -289,7 +289,7 @@ public final class AskBoundsTest {
     }
 
     private static void countsAtTheMost() {
-        due.by("ROWS 0 .. 7; PIECES .. 8 at most; MARBLES .. 6 at most; TICK 999; 24 ACTS; 110 bytes");
+        due.by("ROWS 0 .. 7 .. 110 bytes .. 6 at most .. 8 at most .. 24 at most are kept .. TICK would be above 999");
         MarbleRun x = Due.told("b1;m1,0;m1,0;m1,0;m1,0;m1,0;m1,0;g0,1,1;" + "s0,8,9;".repeat(7));
         for (int row = 0; row <= 7; row++) {
             x.row(row, 0, 40);
@@ -324,7 +324,7 @@ public final class AskBoundsTest {
     }
 
     private static void statusOfFindings() {
-        due.by("-1000010 less 1 NULL, 2 PLACE, 3 KIND, 4 SIZE, 5 STORE");
+        due.by("-1000010 less 1 NULL .. 2 PLACE .. 3 KIND .. 4 SIZE .. 5 STORE");
         MarbleRun x = Due.told(ALL_KINDS);
         x.row(0, 0, 1);
         x.row(1, 1, 1);

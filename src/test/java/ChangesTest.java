@@ -132,7 +132,7 @@ public final class ChangesTest {
         due.by("An ASK (0, 1) of a PIECE. .. THE TRACE is empty ahead of it.");
         changes("ask 0 0", Whole.TRACE);
         changes("ask 2 1", Whole.TRACE);
-        due.by("A row tells ..: KINDS, POINTS of a PIECE, WEIGHTS of a MARBLE, BARS by which it is so.");
+        due.by("A row tells .. KINDS .. POINTS .. of a PIECE now .. WEIGHTS .. of a MARBLE, BARS .. by which it is so.");
         changes("who 3 0 0 0 3", Whole.STATUS);
         changes("who 3 1 0 0 3", Whole.STATUS);
         changes("weights 4 0 1 0 5", Whole.STATUS);

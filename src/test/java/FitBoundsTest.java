@@ -20,6 +20,7 @@ public final class FitBoundsTest {
         draws();
         drawsOfNone();
         tipsByDraws();
+        thrownOrTipped();
         refusedDraws();
         due.end();
     }
@@ -152,7 +153,7 @@ public final class FitBoundsTest {
     }
 
     private static void refusedFits() {
-        due.by("n ITEMS of a ROW from i on. BAD: PIECE [MARBLE], which, ROW, n; NULL; PLACE.");
+        due.by("n ITEMS of a ROW from i on. BAD: PIECE, which, ROW, n; NULL; PLACE. .. BAD: MARBLE, which, ROW, n; NULL; PLACE.");
         MarbleRun x = Due.told("b5;m1,20;m1,20;m1,20;g0,8,9;g0,8,9;");
         x.row(0, 0, 40);
         x.row(1, 1, 0);
@@ -253,7 +254,7 @@ public final class FitBoundsTest {
     }
 
     private static void refusedJams() {
-        due.by("jam: above (what = 0), below (1). BAD.");
+        due.by("JAM: above (what = 0), below (1). BAD.");
         MarbleRun x = Due.told("b1;m1,0;m1,0;g0,8,9;");
         for (int what = 0; what <= 1; what++) {
             for (int m : beyond(0, 1)) {
@@ -278,7 +279,7 @@ public final class FitBoundsTest {
 
     /** One marble that falls each day: thrown anew ahead of each but the first, of the weight that is drawn. */
     private static void draws() {
-        due.by("DAYS of n TICKS (0 to 60) by a SEED (1 to 999999) .. thrown anew, of WEIGHT the rest of X by 9 and 1");
+        due.by("DAYS of n TICKS (0 to 60) by a SEED .. (1 to 999999) .. thrown anew, of WEIGHT the rest of X by 9 and 1");
         for (int seed : new int[] {1, 2, 127773, 999998, 999999}) {
             MarbleRun x = Due.told("b5;m9,0;s0,8,9;");
             long drawn = next(seed);
@@ -335,8 +336,22 @@ public final class FitBoundsTest {
         }
     }
 
+    /** One marble over one gate: tipped by the first draw at most, for from then on the marble is thrown anew each day. */
+    private static void thrownOrTipped() {
+        due.by("if it is in a TRAY, is thrown anew .. else the PIECE .. is tipped");
+        for (int seed = 1; seed <= 30; seed++) {
+            MarbleRun x = Due.told("b1;m1,0;g0,8,9;");
+            int first = next(seed) % 3 == 0 ? 1 : 0;
+            for (int day = 0; day <= 12; day++) {
+                int right = (day + first) / 2;
+                due.is("RIGHT by " + seed + ", day " + day, x.drawn(day, seed, 0), right);
+                due.is("LEFT by " + seed + ", day " + day, x.drawn(day, seed, 1), day - right);
+            }
+        }
+    }
+
     private static void refusedDraws() {
-        due.by("drawn: THE RIGHT (what = 0), THE LEFT (1). BAD; STATE: no RUN (ahead of BAD).");
+        due.by("DAYS .. THE RIGHT (what = 0), THE LEFT (1). BAD; STATE: no RUN (ahead of BAD).");
         MarbleRun x = Due.told("b1;m1,0;g0,8,9;");
         for (int n : beyond(0, 60)) {
             due.is("n " + n, x.drawn(n, 1, 0), Due.BAD);

@@ -28,6 +28,7 @@ public final class ForetoldBoundsTest {
         turns();
         turnsOfEight();
         turnsOfTicks();
+        turnsLater();
         due.end();
     }
 
@@ -543,5 +544,20 @@ public final class ForetoldBoundsTest {
             due.is("m " + m, x.byTurns(0, m), Due.BAD);
             due.is("no RUN, ahead of BAD", new MarbleRun().byTurns(0, m), Due.STATE);
         }
+    }
+
+    /** Three lie in THE LEFT TRAY already, when the fourth is yet to come over the gate. */
+    private static void turnsLater() {
+        due.by("how many are in THE RIGHT TRAY less how many are in THE LEFT");
+        MarbleRun x = Due.told("b5;m1,0;m1,0;m9,0;m9,20;s0,8,1;g0,8,9;");
+        x.ticks(2);
+        due.is("in THE LEFT TRAY", x.stand(4), 7);
+        int[] worths = {-2, -2, -4, -2, -4};
+        for (int n = 0; n <= 4; n++) {
+            due.is("the fourth comes, " + n, x.byTurns(n, 20), worths[n]);
+            due.is("not yet, " + n, x.byTurns(n, 19), -3);
+        }
+        x.again(0, 9);
+        due.is("one is thrown anew", x.byTurns(0, 2), -1);
     }
 }

@@ -208,7 +208,7 @@ public final class RowBoundsTest {
     }
 
     private static void copiesOfMissingRows() {
-        due.by("copy: BAD: ROWS; NULL");
+        due.by("BAD: ROWS; NULL");
         MarbleRun x = new MarbleRun();
         x.row(0, 2, 4);
         due.is("both missing", x.copy(1, 0, 2, 0, 1), Due.NULL);
